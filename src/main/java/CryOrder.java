@@ -42,6 +42,7 @@ public final class CryOrder {
     private static final int SETTLED_FALSE = 2;
 
     private final Alarm[] alarms = new Alarm[ALARM_ROOM];
+    private final Alarm[] latestOfThing = new Alarm[THINGS];
     private final Silence[] silences = new Silence[SILENCE_ROOM];
     private final Node root = new Node(null, 0, null);
     private final Ties ties = new Ties();
@@ -84,6 +85,8 @@ public final class CryOrder {
         fresh.silenced = isSilencedNow(source);
         fresh.capped = !fresh.silenced && isCapFullNow(source);
         fresh.leaf.addOpen();
+        fresh.soonerOfThing = latestOfThing[thing];
+        latestOfThing[thing] = fresh;
         alarms[alarmCount] = fresh;
         alarmCount++;
         casesAreStale = true;
@@ -216,16 +219,18 @@ public final class CryOrder {
     }
 
     public int slow(int thing) {
+        if (!isBelow(thing, THINGS)) {
+            return NONE;
+        }
         int sum = 0;
-        for (int i = 0; i < alarmCount; i++) {
-            Alarm each = alarms[i];
-            if (each.thing == thing && each.isLive() && each.came >= now - SLOW_REACH) {
-                int score = each.score(leastSettled);
-                if (score >= LOUD_SCORE) {
-                    return NONE;
-                }
-                sum += score;
+        Alarm each = latestOfThing[thing];
+        while (each != null && now - each.came <= SLOW_REACH) {
+            int score = each.isLive() ? each.score(leastSettled) : 0;
+            if (score >= LOUD_SCORE) {
+                return NONE;
             }
+            sum += score;
+            each = each.soonerOfThing;
         }
         return sum > SLOW_FLOOR ? sum : NONE;
     }
@@ -467,6 +472,8 @@ public final class CryOrder {
         int state = OPEN;
         int lookersForTrue;
         int lookersForFalse;
+        /** The alarm of the same thing that came before: cases are looked for among these alone. */
+        Alarm soonerOfThing;
         /** A lesser alarm of the same case; null for the least one. */
         Alarm above;
 
@@ -684,20 +691,19 @@ public final class CryOrder {
         private static void joinNearOnes(Alarm[] alarms, int alarmCount, Ties ties) {
             for (int i = 0; i < alarmCount; i++) {
                 if (alarms[i].isLive()) {
-                    joinWithNearOnesBefore(alarms, i, ties);
+                    joinWithSoonerOnes(alarms[i], ties);
                 }
             }
         }
 
-        private static void joinWithNearOnesBefore(Alarm[] alarms, int i, Ties ties) {
-            Alarm later = alarms[i];
-            for (int j = i - 1; j >= 0 && later.came - alarms[j].came <= CASE_REACH; j--) {
-                Alarm earlier = alarms[j];
+        private static void joinWithSoonerOnes(Alarm later, Ties ties) {
+            Alarm each = later.soonerOfThing;
+            while (each != null && later.came - each.came <= CASE_REACH) {
                 // Those in one case already are left out first: to look for a parting costs more.
-                if (earlier.thing == later.thing && earlier.isLive() && earlier.head() != later.head()
-                        && !ties.isParted(i, j)) {
-                    later.joinCaseOf(earlier);
+                if (each.isLive() && each.head() != later.head() && !ties.isParted(each.number, later.number)) {
+                    later.joinCaseOf(each);
                 }
+                each = each.soonerOfThing;
             }
         }
 

@@ -6,6 +6,7 @@ public final class PlanTest {
         wrongInputs();
         greatestSum();
         severalSets();
+        nothingStaysOfEarlierPlans();
         twelveOnly();
         tries();
         check.end();
@@ -90,6 +91,22 @@ public final class PlanTest {
         z.verdict(0, 1, false);
         check.due("caseOf(1, 1)", z.caseOf(1, 1), 0);
         look(z, 300);
+    }
+
+    private static void nothingStaysOfEarlierPlans() {
+        CryOrder x = new CryOrder();
+        for (int thing = 0; thing < 4; thing++) {
+            makeCase(x, thing, 1, 10);
+        }
+        look(x, 14, 0, 1);
+        x.verdict(0, 0, false);
+        x.verdict(0, 1, false);
+        look(x, 14);
+        x.alarm(1, 1, 0, 90);
+        x.verdict(2, 0, true);
+        x.verdict(2, 1, true);
+        look(x, 14, 1);
+        look(x, 16, 1, 3);
     }
 
     private static void twelveOnly() {
