@@ -578,18 +578,14 @@ public final class CryOrder {
     }
 
     private static final class Pair {
-        final int a;
-        final int b;
+        final int lesser;
+        final int greater;
         boolean joined;
 
-        Pair(int a, int b, boolean joined) {
-            this.a = a;
-            this.b = b;
+        Pair(int lesser, int greater, boolean joined) {
+            this.lesser = lesser;
+            this.greater = greater;
             this.joined = joined;
-        }
-
-        boolean isOf(int x, int y) {
-            return (a == x && b == y) || (a == y && b == x);
         }
     }
 
@@ -599,8 +595,10 @@ public final class CryOrder {
         int size;
 
         private Pair find(int a, int b) {
+            int lesser = Math.min(a, b);
+            int greater = Math.max(a, b);
             for (int i = 0; i < size; i++) {
-                if (pairs[i].isOf(a, b)) {
+                if (pairs[i].lesser == lesser && pairs[i].greater == greater) {
                     return pairs[i];
                 }
             }
@@ -618,7 +616,7 @@ public final class CryOrder {
             if (size >= TIE_ROOM) {
                 return false;
             }
-            pairs[size] = new Pair(a, b, joined);
+            pairs[size] = new Pair(Math.min(a, b), Math.max(a, b), joined);
             size++;
             return true;
         }
@@ -670,7 +668,11 @@ public final class CryOrder {
                 alarms[i].above = null;
                 alarms[i].led.clear();
             }
-            joinNearOnes(alarms, alarmCount, ties);
+            for (int i = 0; i < alarmCount; i++) {
+                if (alarms[i].isLive()) {
+                    joinWithSoonerOnes(alarms[i], ties);
+                }
+            }
             joinToldOnes(alarms, alarmCount, ties);
             fillCases(alarms, alarmCount, leastSettled);
             putInOrder(alarms, alarmCount);
@@ -688,14 +690,6 @@ public final class CryOrder {
             return sum;
         }
 
-        private static void joinNearOnes(Alarm[] alarms, int alarmCount, Ties ties) {
-            for (int i = 0; i < alarmCount; i++) {
-                if (alarms[i].isLive()) {
-                    joinWithSoonerOnes(alarms[i], ties);
-                }
-            }
-        }
-
         private static void joinWithSoonerOnes(Alarm later, Ties ties) {
             Alarm each = later.soonerOfThing;
             while (each != null && later.came - each.came <= CASE_REACH) {
@@ -710,9 +704,9 @@ public final class CryOrder {
         private static void joinToldOnes(Alarm[] alarms, int alarmCount, Ties ties) {
             for (int i = 0; i < ties.size; i++) {
                 Pair each = ties.pairs[i];
-                if (each.joined && isBelow(each.a, alarmCount) && isBelow(each.b, alarmCount)
-                        && alarms[each.a].isLive() && alarms[each.b].isLive()) {
-                    alarms[each.a].joinCaseOf(alarms[each.b]);
+                if (each.joined && isBelow(each.lesser, alarmCount) && isBelow(each.greater, alarmCount)
+                        && alarms[each.lesser].isLive() && alarms[each.greater].isLive()) {
+                    alarms[each.lesser].joinCaseOf(alarms[each.greater]);
                 }
             }
         }
