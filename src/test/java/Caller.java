@@ -14,19 +14,24 @@ final class Caller {
     private final int markKinds;
     private final int longestPass;
     private final int asking;
+    /** What most changes of the run are, so that its room is used up or its sum grows; empty for an even run. */
+    private final String flood;
     private final List<int[]> cries = new ArrayList<>();
     private int now;
     private int alarms;
+    private int silences;
     private int latestCase;
 
     Caller(long seed) {
         this.random = new Random(seed);
+        String[] floods = {"", "", "alarm", "tie", "silence", "murmur"};
+        this.flood = floods[(int) (seed % floods.length)];
         this.sources = 1 + random.nextInt(10);
-        this.things = 1 + random.nextInt(40);
+        this.things = 1 + random.nextInt(flood.equals("murmur") ? 3 : 40);
         this.markKinds = 1 + random.nextInt(seed % 3 == 0 ? 8 : 2);
         int[] passes = {1, 3, 12, 40, 1000};
         this.longestPass = passes[random.nextInt(passes.length)];
-        this.asking = 20 + random.nextInt(60);
+        this.asking = flood.equals("alarm") ? 15 : 20 + random.nextInt(60);
     }
 
     /** Hears what a call was answered, since later calls ask for what is there. */
@@ -34,6 +39,8 @@ final class Caller {
         if (call.name.equals("alarm") && answer >= 0) {
             alarms = Math.max(alarms, answer + 1);
             cries.add(call.args);
+        } else if (call.name.equals("silence") && answer >= 0) {
+            silences = answer;
         } else if (call.name.equals("pass") && answer >= 0) {
             now = answer;
         } else if (call.name.equals("order") && answer >= 0) {
@@ -58,18 +65,35 @@ final class Caller {
     }
 
     private Call change() {
-        return switch (random.nextInt(16)) {
-            case 0, 1 -> new Call("pass", random.nextInt(20) == 0 ? number(1001) : 1 + random.nextInt(longestPass));
-            case 2, 3, 4, 5, 6, 7, 8 -> someAlarm();
-            case 9 -> someSilence();
-            case 10 -> new Call("set", number(3), random.nextBoolean() ? 1 + random.nextInt(5) : number(51));
-            case 11, 12, 13, 14 -> new Call("verdict", number(alarms), number(10), random.nextInt(3) == 0 ? 0 : 1);
-            default -> new Call("tie", number(alarms), number(alarms), random.nextInt(2));
+        return random.nextInt(3) == 0 ? evenChange() : switch (flood) {
+            case "alarm" -> someAlarm();
+            case "tie" -> alarms < 20 ? someAlarm() : someTie();
+            case "silence" -> silences < 30 || random.nextInt(8) == 0 ? someSilence() : someAlarm();
+            default -> evenChange();
         };
     }
 
+    private Call evenChange() {
+        return switch (random.nextInt(16)) {
+            case 0, 1 -> somePass();
+            case 2, 3, 4, 5, 6, 7, 8 -> someAlarm();
+            case 9 -> random.nextInt(4) == 0 ? someSilence() : new Call("count", 4);
+            case 10 -> new Call("set", number(3), random.nextBoolean() ? 1 + random.nextInt(5) : number(51));
+            case 11, 12, 13, 14 -> new Call("verdict", number(alarms), number(10), random.nextInt(3) == 0 ? 0 : 1);
+            default -> someTie();
+        };
+    }
+
+    private Call somePass() {
+        if (now >= 9000 && random.nextInt(4) == 0) {
+            return new Call("pass", 10000 - now + random.nextInt(2));
+        }
+        return new Call("pass", random.nextInt(20) == 0 ? number(1001) : 1 + random.nextInt(longestPass));
+    }
+
     private Call someAlarm() {
-        int worth = random.nextBoolean() ? 1 + random.nextInt(19) : number(101);
+        boolean isQuiet = flood.equals("murmur") ? random.nextInt(50) != 0 : random.nextBoolean();
+        int worth = isQuiet ? 1 + random.nextInt(19) : number(101);
         if (!cries.isEmpty() && random.nextInt(3) == 0) {
             int[] like = cries.get(random.nextInt(cries.size()));
             return new Call("alarm", like[0], like[1], like[2], worth);
@@ -77,10 +101,11 @@ final class Caller {
         return new Call("alarm", number(sources), number(things), someMarks(), worth);
     }
 
+    private Call someTie() {
+        return new Call("tie", number(alarms), number(alarms), random.nextInt(2));
+    }
+
     private Call someSilence() {
-        if (random.nextInt(4) != 0) {
-            return new Call("count", 4);
-        }
         int from = Math.max(0, now + random.nextInt(30) - 10);
         return new Call("silence", number(sources), from, from + number(20));
     }
